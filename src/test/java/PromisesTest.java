@@ -119,16 +119,20 @@ public final class PromisesTest {
         int[] held = {1, 1, 1, 1, 2, 100, 199, 200, 200, 200};
         for (int i = 0; i < asked.length; i++) {
             BatchClasses x = new BatchClasses(asked[i]);
-            // Two acts a round: A one more, anew while A is below C; then the end is one step more.
-            int of = classOf(x, 1, 6, 13);
-            int most = (held[i] - 1) / 2;
-            int fits = x.record(2, most);
-            int tooLong = x.record(2, most + 1);
-            int ends = classOf(x, 13);
-            due("run(ends) of " + asked[i], x.run(ends, fits), 1);
-            due("run(fits) of " + asked[i], x.run(of, fits), held[i] < 3 ? -4 : 1);
-            due("run(tooLong) of " + asked[i], x.run(of, tooLong), -4);
+            due("just enough of " + asked[i], runOfSteps(x, held[i]), 1);
+            due("one too many of " + asked[i], runOfSteps(x, held[i] + 1), -4);
         }
+    }
+
+    /** Runs a program that needs just so many steps. */
+    private static int runOfSteps(BatchClasses x, int steps) {
+        if (steps <= 2) {
+            return x.run(steps == 1 ? classOf(x, 13) : classOf(x, 0, 13), x.record(0, 0));
+        }
+        // Rounds of two acts until A is C, then the end, behind one act more if the steps are even.
+        int rounds = (steps - 1) / 2;
+        int of = steps % 2 == 0 ? classOf(x, 1, 6, 0, 13) : classOf(x, 1, 6, 13);
+        return x.run(of, x.record(2, rounds));
     }
 
     private static void promise2Type() {
@@ -315,6 +319,9 @@ public final class PromisesTest {
         int below = x.record(0, LEAST);
         due("act 6, far below", x.run(classOf(x, 1, 6), below), -4);
         dueFields(x, below, LEAST, 0, 0, 0);
+        int above = x.record(2, LEAST);
+        due("act 6, far above", x.run(classOf(x, 6, 1), above), 1);
+        dueFields(x, above, 1, 0, LEAST, 0);
     }
 
     private static void promise5Steps() {
