@@ -1,104 +1,37 @@
 /** For each promise of the document: ordinary inputs, the edges it names, and wrong inputs. */
-public final class PromisesTest {
-    private static final long BIG = Long.MAX_VALUE;
-    private static final long LEAST = Long.MIN_VALUE;
-    private static final int[] NO_NUMBERS = {0, -1, 61, 1000, Integer.MIN_VALUE, Integer.MAX_VALUE};
-    private static final int THROWN = -777;
-
-    private static int wrong = 0;
-    private static String part = "";
-
+public final class PromisesTest extends Checks {
     public static void main(String[] args) {
-        promise1NewObject();
-        promise1StepsAreBound();
-        promise2Type();
-        promise3Make();
-        promise4Record();
-        promise5RunAnswers();
-        promise5ActsOnFields();
-        promise5ActsOnTheCell();
-        promise5Division();
-        promise5Sums64Bits();
-        promise5Steering();
-        promise5Steps();
-        promise5FailuresTakeBack();
-        promise5Locks();
-        promise6Value();
-        promise7Failed();
-        promise7KeepsTheFirstHundred();
-        promise8Cell();
-        promise9Same();
-        promise10Resume();
-        promise10ResumeGoesOnBehindTheGreatest();
-        promise10ResumeStopsAtLocked();
-        promise11Divide();
-        promise12Dry();
-        promise12DryChangesNothing();
-        promise13Handle();
-        promise13HandleAfterOtherCalls();
-        System.out.println(wrong == 0 ? "all answers are as due" : wrong + " answers are not as due");
-        if (wrong != 0) {
-            System.exit(1);
-        }
-    }
-
-    private static void due(String call, long got, long want) {
-        if (got != want) {
-            wrong++;
-            System.out.println(part + ": " + call + " answered " + got + ", due is " + want);
-        }
-    }
-
-    private static void due(String call, boolean got, boolean want) {
-        due(call, got ? 1 : 0, want ? 1 : 0);
-    }
-
-    /** The acts in their order, the first in the lowest four bits; the rest of the eight are 0. */
-    private static int program(int... acts) {
-        int does = 0;
-        for (int i = 0; i < acts.length; i++) {
-            does |= acts[i] << (4 * i);
-        }
-        return does;
-    }
-
-    private static int classOf(BatchClasses x, int... acts) {
-        return x.make(x.type(program(acts), false));
-    }
-
-    /** A record with A and B: a class whose cell takes a from one record carries it to another. */
-    private static int recordOf(BatchClasses x, long a, long b) {
-        int carrier = classOf(x, 8, 9, 13);
-        x.run(carrier, x.record(0, a));
-        int record = x.record(1, b);
-        x.run(carrier, record);
-        dueFields(x, record, a, b, 0, 0);
-        return record;
-    }
-
-    private static void dueFields(BatchClasses x, int record, long a, long b, long c, long d) {
-        due("value(" + record + ", 0)", x.value(record, 0), a);
-        due("value(" + record + ", 1)", x.value(record, 1), b);
-        due("value(" + record + ", 2)", x.value(record, 2), c);
-        due("value(" + record + ", 3)", x.value(record, 3), d);
-    }
-
-    private static void dueFailure(BatchClasses x, int i, int record, int kind, int of) {
-        due("failed(" + i + ", 0)", x.failed(i, 0), record);
-        due("failed(" + i + ", 1)", x.failed(i, 1), kind);
-        due("failed(" + i + ", 2)", x.failed(i, 2), of);
-    }
-
-    private static int handleOf(BatchClasses x, int record) {
-        try {
-            return x.handle(record);
-        } catch (IllegalStateException e) {
-            return THROWN;
-        }
+        sentence("promise 1, new object", PromisesTest::promise1NewObject);
+        sentence("promise 1, steps", PromisesTest::promise1StepsAreBound);
+        sentence("promise 2", PromisesTest::promise2Type);
+        sentence("promise 3", PromisesTest::promise3Make);
+        sentence("promise 4", PromisesTest::promise4Record);
+        sentence("promise 5, answers", PromisesTest::promise5RunAnswers);
+        sentence("promise 5, acts on fields", PromisesTest::promise5ActsOnFields);
+        sentence("promise 5, acts on the cell", PromisesTest::promise5ActsOnTheCell);
+        sentence("promise 5, division", PromisesTest::promise5Division);
+        sentence("promise 5, 64 bits", PromisesTest::promise5Sums64Bits);
+        sentence("promise 5, steering", PromisesTest::promise5Steering);
+        sentence("promise 5, steps", PromisesTest::promise5Steps);
+        sentence("promise 5, failures", PromisesTest::promise5FailuresTakeBack);
+        sentence("promise 5, locks", PromisesTest::promise5Locks);
+        sentence("promise 6", PromisesTest::promise6Value);
+        sentence("promise 7", PromisesTest::promise7Failed);
+        sentence("promise 7, the first 100", PromisesTest::promise7KeepsTheFirstHundred);
+        sentence("promise 8", PromisesTest::promise8Cell);
+        sentence("promise 9", PromisesTest::promise9Same);
+        sentence("promise 10", PromisesTest::promise10Resume);
+        sentence("promise 10, the greatest", PromisesTest::promise10ResumeGoesOnBehindTheGreatest);
+        sentence("promise 10, locked", PromisesTest::promise10ResumeStopsAtLocked);
+        sentence("promise 11", PromisesTest::promise11Divide);
+        sentence("promise 12", PromisesTest::promise12Dry);
+        sentence("promise 12, nothing is changed", PromisesTest::promise12DryChangesNothing);
+        sentence("promise 13", PromisesTest::promise13Handle);
+        sentence("promise 13, other calls", PromisesTest::promise13HandleAfterOtherCalls);
+        end();
     }
 
     private static void promise1NewObject() {
-        part = "promise 1, new object";
         BatchClasses x = new BatchClasses(10);
         due("NONE", BatchClasses.NONE, -1);
         due("make(1)", x.make(1), -1);
@@ -114,7 +47,6 @@ public final class PromisesTest {
     }
 
     private static void promise1StepsAreBound() {
-        part = "promise 1, steps";
         int[] asked = {Integer.MIN_VALUE, -1, 0, 1, 2, 100, 199, 200, 201, Integer.MAX_VALUE};
         int[] held = {1, 1, 1, 1, 2, 100, 199, 200, 200, 200};
         for (int i = 0; i < asked.length; i++) {
@@ -136,7 +68,6 @@ public final class PromisesTest {
     }
 
     private static void promise2Type() {
-        part = "promise 2";
         BatchClasses x = new BatchClasses(10);
         for (int i = 1; i <= 20; i++) {
             due("type " + i, x.type(i == 20 ? 1 : 0, i % 2 == 0 && i != 20), i);
@@ -152,7 +83,6 @@ public final class PromisesTest {
     }
 
     private static void promise3Make() {
-        part = "promise 3";
         BatchClasses x = new BatchClasses(10);
         x.type(program(8), false);
         x.type(program(8), true);
@@ -179,7 +109,6 @@ public final class PromisesTest {
     }
 
     private static void promise4Record() {
-        part = "promise 4";
         BatchClasses x = new BatchClasses(10);
         due("record(0, 7)", x.record(0, 7), 1);
         for (int field : new int[] {-1, 4, 5, Integer.MIN_VALUE, Integer.MAX_VALUE}) {
@@ -201,7 +130,6 @@ public final class PromisesTest {
     }
 
     private static void promise5RunAnswers() {
-        part = "promise 5, answers";
         BatchClasses x = new BatchClasses(8);
         int fine = classOf(x, 1);
         int divides = classOf(x, 4);
@@ -227,9 +155,8 @@ public final class PromisesTest {
     }
 
     private static void promise5ActsOnFields() {
-        part = "promise 5, acts on fields";
         BatchClasses x = new BatchClasses(20);
-        int r = recordOf(x, 6, 4);
+        int r = recordOf(x, 6, 4, 0, 0);
         due("acts 0 14 15", x.run(classOf(x, 0, 14, 15, 0, 0, 0, 0, 15), r), 1);
         dueFields(x, r, 6, 4, 0, 0);
         due("act 1", x.run(classOf(x, 1), r), 1);
@@ -253,7 +180,6 @@ public final class PromisesTest {
     }
 
     private static void promise5ActsOnTheCell() {
-        part = "promise 5, acts on the cell";
         BatchClasses x = new BatchClasses(20);
         int sums = classOf(x, 8, 8);
         int takes = classOf(x, 9, 1, 8);
@@ -273,20 +199,18 @@ public final class PromisesTest {
     }
 
     private static void promise5Division() {
-        part = "promise 5, division";
         long[] tops = {7, -7, 7, -7, 0, LEAST, LEAST, BIG, 1};
         long[] bys = {2, 2, -2, -2, 5, -1, 1, LEAST, BIG};
         long[] cut = {3, -3, -3, 3, 0, LEAST, LEAST, 0, 0};
         for (int i = 0; i < tops.length; i++) {
             BatchClasses x = new BatchClasses(8);
-            int r = recordOf(x, tops[i], bys[i]);
+            int r = recordOf(x, tops[i], bys[i], 0, 0);
             due("run", x.run(classOf(x, 4), r), 1);
             dueFields(x, r, cut[i], bys[i], 0, 0);
         }
     }
 
     private static void promise5Sums64Bits() {
-        part = "promise 5, 64 bits";
         BatchClasses x = new BatchClasses(8);
         int r = x.record(0, BIG);
         due("act 1", x.run(classOf(x, 1), r), 1);
@@ -302,7 +226,6 @@ public final class PromisesTest {
     }
 
     private static void promise5Steering() {
-        part = "promise 5, steering";
         BatchClasses x = new BatchClasses(200);
         int r = x.record(2, 5);
         due("act 6", x.run(classOf(x, 1, 6), r), 1);
@@ -325,7 +248,6 @@ public final class PromisesTest {
     }
 
     private static void promise5Steps() {
-        part = "promise 5, steps";
         BatchClasses eight = new BatchClasses(8);
         int r = eight.record(0, 1);
         due("eight acts of eight", eight.run(classOf(eight, 1, 1, 1, 1, 1, 1, 1, 1), r), 1);
@@ -344,7 +266,6 @@ public final class PromisesTest {
     }
 
     private static void promise5FailuresTakeBack() {
-        part = "promise 5, failures";
         int[] lastActs = {4, 10, 6};
         int[] kinds = {2, 3, 4};
         for (int i = 0; i < lastActs.length; i++) {
@@ -362,7 +283,6 @@ public final class PromisesTest {
     }
 
     private static void promise5Locks() {
-        part = "promise 5, locks";
         BatchClasses x = new BatchClasses(50);
         int of = classOf(x, 1, 7, 1);
         int r = x.record(0, 1);
@@ -380,7 +300,6 @@ public final class PromisesTest {
     }
 
     private static void promise6Value() {
-        part = "promise 6";
         BatchClasses x = new BatchClasses(10);
         int r = x.record(0, 5);
         x.record(0, 6);
@@ -396,7 +315,6 @@ public final class PromisesTest {
     }
 
     private static void promise7Failed() {
-        part = "promise 7";
         BatchClasses x = new BatchClasses(10);
         int divides = classOf(x, 4);
         int fails = classOf(x, 10);
@@ -418,7 +336,6 @@ public final class PromisesTest {
     }
 
     private static void promise7KeepsTheFirstHundred() {
-        part = "promise 7, the first 100";
         BatchClasses x = new BatchClasses(10);
         int fails = classOf(x, 10);
         int divides = classOf(x, 4);
@@ -439,7 +356,6 @@ public final class PromisesTest {
     }
 
     private static void promise8Cell() {
-        part = "promise 8";
         BatchClasses x = new BatchClasses(10);
         int type = x.type(program(8), false);
         int one = x.make(type);
@@ -457,7 +373,6 @@ public final class PromisesTest {
     }
 
     private static void promise9Same() {
-        part = "promise 9";
         BatchClasses x = new BatchClasses(10);
         int type = x.type(program(1), false);
         int twin = x.type(program(1), false);
@@ -478,7 +393,6 @@ public final class PromisesTest {
     }
 
     private static void promise10Resume() {
-        part = "promise 10";
         BatchClasses x = new BatchClasses(10);
         int of = classOf(x, 9, 1, 8);
         due("resume, no records", x.resume(of), 0);
@@ -509,7 +423,6 @@ public final class PromisesTest {
     }
 
     private static void promise10ResumeGoesOnBehindTheGreatest() {
-        part = "promise 10, the greatest";
         BatchClasses x = new BatchClasses(10);
         int of = classOf(x, 1, 4);
         int other = classOf(x, 3);
@@ -537,7 +450,6 @@ public final class PromisesTest {
     }
 
     private static void promise10ResumeStopsAtLocked() {
-        part = "promise 10, locked";
         BatchClasses x = new BatchClasses(10);
         int locks = classOf(x, 7);
         int of = classOf(x, 1);
@@ -556,16 +468,7 @@ public final class PromisesTest {
         due("record 1 is behind the greatest", x.run(of, 1), 1);
     }
 
-    private static long divided(BatchClasses x, int of, long a, long by) {
-        try {
-            return x.divide(of, a, by);
-        } catch (ArithmeticException e) {
-            return THROWN;
-        }
-    }
-
     private static void promise11Divide() {
-        part = "promise 11";
         BatchClasses x = new BatchClasses(1);
         int of = classOf(x, 8, 13);
         due("divide(7, 2)", divided(x, of, 7, 2), 3);
@@ -587,7 +490,6 @@ public final class PromisesTest {
     }
 
     private static void promise12Dry() {
-        part = "promise 12";
         BatchClasses x = new BatchClasses(10);
         int r = x.record(0, 5);
         due("none is another", x.dry(classOf(x, 0), r), 0);
@@ -615,7 +517,6 @@ public final class PromisesTest {
     }
 
     private static void promise12DryChangesNothing() {
-        part = "promise 12, nothing is changed";
         BatchClasses x = new BatchClasses(10);
         int of = classOf(x, 1, 8, 12, 11, 5, 7);
         int fails = classOf(x, 10);
@@ -640,7 +541,6 @@ public final class PromisesTest {
     }
 
     private static void promise13Handle() {
-        part = "promise 13";
         BatchClasses x = new BatchClasses(10);
         int one = classOf(x, 1);
         int two = classOf(x, 1);
@@ -670,7 +570,6 @@ public final class PromisesTest {
     }
 
     private static void promise13HandleAfterOtherCalls() {
-        part = "promise 13, other calls";
         BatchClasses x = new BatchClasses(10);
         int type = x.type(program(1), false);
         for (int i = 1; i <= 60; i++) {
