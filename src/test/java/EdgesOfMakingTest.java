@@ -31,7 +31,7 @@ public final class EdgesOfMakingTest extends Checks {
         sentence("3: NONE if its START fails", EdgesOfMakingTest::makeWhoseStartFails);
         sentence("3: NONE if there are 60", EdgesOfMakingTest::classesAreFull);
         sentence("3: NONE, and no number is taken", EdgesOfMakingTest::refusedMakeTakesNoNumber);
-        sentence("3: NONE if there are 60, and nothing changes", EdgesOfMakingTest::refusedMakeChangesNothing);
+        sentence("3: NONE, and nothing changes", EdgesOfMakingTest::refusedMakeChangesNothing);
     }
 
     private static void promise4() {
@@ -40,7 +40,7 @@ public final class EdgesOfMakingTest extends Checks {
         sentence("4: 0 if there is no such field", EdgesOfMakingTest::recordOfNoField);
         sentence("4: 0 if there are 60", EdgesOfMakingTest::recordsAreFull);
         sentence("4: 0, and no number is taken", EdgesOfMakingTest::refusedRecordTakesNoNumber);
-        sentence("4: 0 if there are 60, and nothing changes", EdgesOfMakingTest::refusedRecordChangesNothing);
+        sentence("4: 0, and nothing changes", EdgesOfMakingTest::refusedRecordChangesNothing);
     }
 
     private static void dueSteps(int asked, int held) {

@@ -200,12 +200,16 @@ public final class EdgesOfRunningTest extends Checks {
             due("resume begins at the first", x.resume(of), first);
             due("failed(1, 0)", x.failed(1, 0), first);
             due("not done", handleOf(x, first), THROWN);
+            if (kind != 5) {
+                due("by another class", run(x, first, 0), 1);
+                due("done by that one alone", handleOf(x, first), 1);
+            }
         }
     }
 
     private static void resumeRunsInOrder() {
         BatchClasses x = new BatchClasses(10);
-        // Each record takes over twice what the record before it took over, and 1.
+        // Each record becomes one more than the sum of those before it, so the order shows.
         int of = classOf(x, 9, 1, 8);
         makeRecords(x, 5);
         due("resume", x.resume(of), 0);

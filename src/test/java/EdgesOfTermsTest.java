@@ -50,7 +50,7 @@ public final class EdgesOfTermsTest extends Checks {
     private static void steps() {
         sentence("Each act that is begun is a STEP", EdgesOfTermsTest::eachActIsOneStep);
         sentence("Each act that is begun is a STEP, in each round", EdgesOfTermsTest::eachRoundHasItsSteps);
-        sentence("where one more than the STEPS would be it FAILS with kind 4", EdgesOfTermsTest::oneStepMore);
+        sentence("where one more than the STEPS would be", EdgesOfTermsTest::oneStepMore);
         sentence("kind 4, before that act is begun", EdgesOfTermsTest::kind4ComesBeforeTheAct);
         sentence("kind 4, not for the last of the STEPS", EdgesOfTermsTest::lastStepFailsByItself);
         sentence("kind 4 for a program without an end", EdgesOfTermsTest::endlessPrograms);
@@ -499,30 +499,23 @@ public final class EdgesOfTermsTest extends Checks {
         }
     }
 
-    /** Programs that change all, then fail with kind 2, 3 and 4 on a record of 5, 6, BIG, 8. */
+    /** A program that changes all and locks, then fails with this kind in its last act or behind it. */
     private static int[] failing(int kind) {
-        if (kind == 2) {
-            return new int[] {1, 8, 12, 7, 9, 5, 11, 4};
-        }
-        return new int[] {1, 8, 3, 12, 7, 2, kind == 3 ? 10 : 6};
+        return new int[] {1, 8, 3, 12, 11, 7, 0, kind == 2 ? 4 : kind == 3 ? 10 : 6};
     }
 
+    /** A of -1 makes B, and so the divisor, 0; a C below 0 leaves A below the C that it becomes. */
     private static int recordToFail(BatchClasses x, int kind) {
-        // Act 5 brings A to B; for kind 2 the CELL, then A, then B must be 0 at the division.
-        return kind == 2 ? recordOf(x, -1, 6, BIG, 8) : recordOf(x, 5, 6, BIG, 8);
+        return recordOf(x, kind == 2 ? -1 : 15, 6, -100, 8);
     }
 
     private static void failureLeavesTheRecord() {
         for (int kind = 2; kind <= 4; kind++) {
-            BatchClasses x = new BatchClasses(50);
+            BatchClasses x = new BatchClasses(8);
             int record = recordToFail(x, kind);
             due("run", run(x, record, failing(kind)), -kind);
-            dueFields(x, record, kind == 2 ? -1 : 5, 6, BIG, 8);
+            dueFields(x, record, kind == 2 ? -1 : 15, 6, -100, 8);
         }
-        BatchClasses x = new BatchClasses(50);
-        int record = recordOf(x, 5, 6, 7, 8);
-        due("all fields were others", run(x, record, 1, 3, 12, 11, 1, 10), -3);
-        dueFields(x, record, 5, 6, 7, 8);
     }
 
     private static void failureLeavesWhatWasDoneBefore() {
@@ -537,7 +530,7 @@ public final class EdgesOfTermsTest extends Checks {
 
     private static void failureLeavesUnlocked() {
         for (int kind = 2; kind <= 4; kind++) {
-            BatchClasses x = new BatchClasses(50);
+            BatchClasses x = new BatchClasses(8);
             int record = recordToFail(x, kind);
             due("run", run(x, record, failing(kind)), -kind);
             due("not locked", run(x, record, 0), 1);

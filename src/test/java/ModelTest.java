@@ -8,21 +8,23 @@ import java.util.Set;
  * Many runs of calls, by a fixed seed, against a second writing of the document: it changes the
  * record in place and takes back what failed, where the class works on a copy.
  */
-public final class ModelTest {
+public final class ModelTest extends Checks {
     private static final int RUNS = 3000;
     private static final int CALLS = 512;
     private static final String STATE = "throws.IllegalStateException";
     private static final String ARITHMETIC = "throws.ArithmeticException";
 
     public static void main(String[] args) {
-        int wrong = 0;
-        for (int seed = 1; seed <= RUNS && wrong < 10; seed++) {
-            wrong += isRunAsDue(seed) ? 0 : 1;
+        sentence("runs by seed", ModelTest::runsAreAsDue);
+        end();
+    }
+
+    private static void runsAreAsDue() {
+        int wrongRuns = 0;
+        for (int seed = 1; seed <= RUNS && wrongRuns < 10; seed++) {
+            wrongRuns += isRunAsDue(seed) ? 0 : 1;
         }
-        System.out.println(wrong == 0 ? "all runs are as due" : wrong + " runs are not as due");
-        if (wrong != 0) {
-            System.exit(1);
-        }
+        due("so many runs", wrongRuns, 0);
     }
 
     private static boolean isRunAsDue(int seed) {

@@ -7,6 +7,9 @@ abstract class Checks {
     static final int THROWN = -777;
     static final int OTHER_THROWN = -778;
 
+    // Far above what the slowest test needs, so that only a call without an end gets there.
+    private static final int MOST_MILLISECONDS = 120_000;
+
     static final int[] NO_NUMBERS = {0, -1, 61, 64, 65, 1000, Integer.MIN_VALUE, Integer.MAX_VALUE};
     private static final int[] NO_FIELDS = {-1, 4, 5, -4, 8, Integer.MIN_VALUE, Integer.MAX_VALUE};
 
@@ -16,12 +19,31 @@ abstract class Checks {
     /** One sentence of the document with the test that would fail if it were broken. */
     static void sentence(String words, Runnable test) {
         part = words;
+        Thread thread = new Thread(() -> runTest(test));
+        thread.setDaemon(true);
+        thread.start();
+        if (!hasEnded(thread)) {
+            System.out.println(part + ": a call does not end");
+            System.exit(1);
+        }
+    }
+
+    private static void runTest(Runnable test) {
         try {
             test.run();
         } catch (RuntimeException | Error e) {
             wrong++;
             System.out.println(part + ": threw " + e);
         }
+    }
+
+    private static boolean hasEnded(Thread thread) {
+        try {
+            thread.join(MOST_MILLISECONDS);
+        } catch (InterruptedException e) {
+            return false;
+        }
+        return !thread.isAlive();
     }
 
     static void end() {
