@@ -1,6 +1,7 @@
 import java.lang.reflect.Constructor;
 import java.lang.reflect.Executable;
 import java.lang.reflect.Field;
+import java.lang.reflect.Member;
 import java.lang.reflect.Method;
 import java.lang.reflect.Modifier;
 import java.util.Arrays;
@@ -10,20 +11,20 @@ import java.util.TreeSet;
 /** The class has the document's public face, and nothing else of it can be seen from outside. */
 public final class FaceTest {
     private static final Set<String> FACE = new TreeSet<>(Arrays.asList(
-        "NONE int",
-        "new(int)",
-        "type(int, boolean) int",
-        "make(int) int",
-        "record(int, long) int",
-        "run(int, int) int",
-        "value(int, int) long",
-        "failed(int, int) int",
-        "cell(int) long",
-        "same(int, int) boolean",
-        "resume(int) int",
-        "divide(int, long, long) long throws ArithmeticException",
-        "dry(int, int) int",
-        "handle(int) int throws IllegalStateException"));
+        "public static final NONE int",
+        "public new(int)",
+        "public type(int, boolean) int",
+        "public make(int) int",
+        "public record(int, long) int",
+        "public run(int, int) int",
+        "public value(int, int) long",
+        "public failed(int, int) int",
+        "public cell(int) long",
+        "public same(int, int) boolean",
+        "public resume(int) int",
+        "public divide(int, long, long) long throws ArithmeticException",
+        "public dry(int, int) int",
+        "public handle(int) int throws IllegalStateException"));
 
     public static void main(String[] args) {
         boolean right = isFaceAsDue() & isClassAsDue() & areNamesApart();
@@ -37,24 +38,30 @@ public final class FaceTest {
         Set<String> seen = new TreeSet<>();
         for (Field field : BatchClasses.class.getDeclaredFields()) {
             if (!Modifier.isPrivate(field.getModifiers())) {
-                seen.add(field.getName() + " " + field.getType().getSimpleName());
+                seen.add(modifiers(field) + field.getName() + " " + field.getType().getSimpleName());
             }
         }
         for (Constructor<?> made : BatchClasses.class.getDeclaredConstructors()) {
             if (!Modifier.isPrivate(made.getModifiers())) {
-                seen.add("new" + inputs(made) + thrown(made));
+                seen.add(modifiers(made) + "new" + inputs(made) + thrown(made));
             }
         }
         for (Method method : BatchClasses.class.getDeclaredMethods()) {
             if (!Modifier.isPrivate(method.getModifiers())) {
-                seen.add(method.getName() + inputs(method) + " " + method.getReturnType().getSimpleName()
-                    + thrown(method));
+                seen.add(modifiers(method) + method.getName() + inputs(method) + " "
+                    + method.getReturnType().getSimpleName() + thrown(method));
             }
         }
         if (!seen.equals(FACE)) {
             System.out.println("seen is " + seen + ", due is " + FACE);
         }
         return seen.equals(FACE);
+    }
+
+    /** A member that only the same package sees would pass for the face in tests without a package. */
+    private static String modifiers(Member member) {
+        String words = Modifier.toString(member.getModifiers());
+        return words.isEmpty() ? "" : words + " ";
     }
 
     private static String inputs(Executable call) {
